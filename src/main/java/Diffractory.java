@@ -426,7 +426,7 @@ public final class Diffractory {
     /** Fills light with that of one SOURCE behind a PART (NONE: ahead of all). */
     private void shineOne(Source source, int behind) {
         light.start(source);
-        for (int i = 0; i <= behind; i++) {
+        for (int i = 0; i <= behind && i < partCount; i++) {
             Part part = partAt(i);
             if (part != null && part.isIn) {
                 part.pass(light);
@@ -571,8 +571,9 @@ public final class Diffractory {
         /** WHOLE of X and Y together. */
         long wholeAt(int place) {
             long whole = 0;
-            for (int i = startOfX(place), end = i + OF_PLACE; i < end; i++) {
-                whole += now[i] * now[i];
+            for (int what = 0; what < OF_PLACE; what++) {
+                long number = coefficient(place, what);
+                whole += number * number;
             }
             return whole;
         }

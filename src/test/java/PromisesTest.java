@@ -413,6 +413,9 @@ public final class PromisesTest {
         amplitudes("polar 3 twice", z, 4, 0, 5, 0, 0, 0, -2, 0, 0, 0, 2);
         z.set(4, 2);
         amplitudes("polar 2 of X and -X", z, 4, 0, 5, 0, 0, 0, 0, 0, 0, 0, 0);
+        z.part(9, 0);
+        z.set(4, 1);
+        amplitudes("swap, Y to X", z, 5, 0, 5, 0, 0, 0, 1, 0, 0, 0, 0);
         z.set(3, 2);
         amplitudes("polar 2", z, 3, 0, 5, 0, 0, 0, 1, 0, 0, 0, 1);
     }
@@ -436,6 +439,18 @@ public final class PromisesTest {
             fails("whole, place " + bad, x, NO_INDEX, () -> x.whole(0, bad));
             fails("root, place " + bad, x, NO_INDEX, () -> x.root(NONE, bad));
         }
+        Diffractory w = twoSlits(3);
+        w.move(0, 0, 3, 1);
+        is("ROOT, W^3 and W^4", w.root(2, 1), 1);
+        w.move(0, 0, 2, 1);
+        is("ROOT, W^2 and W^3", w.root(2, 1), 1);
+        w.put(2, false);
+        w.part(10, 3);
+        w.part(8, 1);
+        w.part(2, 0);
+        row("X and Y together, both through far", w, 5,
+            new long[] {8, 4, 4, 4, 0, 4, 4, 4}, new long[] {0, 2, 0, -2, 0, -2, 0, 2});
+        amplitudes("X is W^2 (1 + W^3), Y -W^3 (1 + W^3)", w, 5, 0, 3, 0, -1, 1, 0, 0, 0, 1, -1);
         Diffractory y = new Diffractory();
         y.source(0, 0, 9);
         y.source(0, 1, 9);
@@ -551,6 +566,19 @@ public final class PromisesTest {
         y.part(2, 0);
         y.put(1, false);
         isDouble("clear, even light", y.clear(1), 0.0);
+        Diffractory z = new Diffractory();
+        z.source(0, 0, 1);
+        z.part(2, 0);
+        z.part(7, 0);
+        z.dirt(0, 254);
+        z.expose(1, 1);
+        z.dirt(0, 0);
+        isDouble("clear, the least in place 0: 64 and 81", z.clear(1), 17.0 / 145.0);
+        z.dirt(0, 253);
+        z.expose(1, 1);
+        z.expose(1, 1);
+        z.dirt(0, 0);
+        isDouble("clear, the least in place 1: 49 and 81", z.clear(1), 32.0 / 130.0);
     }
 
     private static void promise17() {
@@ -732,6 +760,12 @@ public final class PromisesTest {
         is("many, masks of 255", y.many(3), NONE);
         y.set(0, 0);
         is("many, a mask of 0", y.many(3), 0);
+        for (int place = 0; place < 8; place++) {
+            Diffractory z = new Diffractory();
+            z.source(place, 0, 3);
+            z.expose(z.part(7, 0), 1);
+            is("many, a plate of 9 in place " + place, z.many(3), 0);
+        }
         for (int bad : new int[] {-1, 5, LOW, HIGH}) {
             fails("many(" + bad + ")", y, BAD, () -> y.many(bad));
         }
@@ -877,7 +911,7 @@ public final class PromisesTest {
         long before = y.digest();
         is("digest, mixed", before, digestByHand(y));
         is("digest, again", y.digest(), before);
-        Diffractory z = twoSlits(11);
+        Diffractory z = twoSlits(3);
         z.source(3, 3, 7);
         z.part(8, 2);
         z.part(6, 1);
