@@ -654,13 +654,13 @@ public final class Diffractory {
             }
         }
 
-        /** The mask keeps every index inside the rows. */
+        /** The mask of 7, here and in startOfY, keeps every index inside the rows. */
         private static int startOfX(int place) {
             return OF_PLACE * (place & 7);
         }
 
         private static int startOfY(int place) {
-            return startOfX(place) + OF_AMPLITUDE;
+            return OF_PLACE * (place & 7) + OF_AMPLITUDE;
         }
     }
 
